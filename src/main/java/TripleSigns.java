@@ -201,9 +201,9 @@ public final class TripleSigns {
             case 5:
                 return layout.relations;
             case 6:
-                return countVerdict(1) + countVerdict(-1);
+                return countComplete();
             case 7:
-                return countVerdict(-1);
+                return countViolated();
             case 8:
                 return now.contradiction;
             case 9:
@@ -244,7 +244,7 @@ public final class TripleSigns {
         if (unknown > MOST_OPEN) {
             throw new IllegalStateException("too many triples are unknown");
         }
-        if (countVerdict(-1) > 0) {
+        if (countViolated() > 0) {
             return 0;
         }
         int listed = 0;
@@ -637,10 +637,20 @@ public final class TripleSigns {
         return mask;
     }
 
-    private int countVerdict(int verdict) {
+    private int countComplete() {
         int found = 0;
         for (int r = 0; r < layout.relations; r++) {
-            if (layout.verdict(r, now.signs) == verdict) {
+            if (layout.unknownIn(r, now.signs) == 0) {
+                found++;
+            }
+        }
+        return found;
+    }
+
+    private int countViolated() {
+        int found = 0;
+        for (int r = 0; r < layout.relations; r++) {
+            if (layout.verdict(r, now.signs) < 0) {
                 found++;
             }
         }

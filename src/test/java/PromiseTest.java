@@ -432,6 +432,9 @@ public final class PromiseTest {
         Check.due("the reasons of " + unknown, x.reasons(unknown), 63 - (1 << unknown));
         Check.due("forget()", x.forget(), 1);
         Check.due("it is unknown", x.triple(unknown, 4), 0);
+        // The other relations are fulfilled with 0 for all triples without 0.
+        runOf(x, "zero bcd;zero bce;zero bde;zero cde;");
+        Check.due("completions() without " + unknown, x.completions(), 1);
     }
 
     private static void deriveAgain() {
@@ -467,6 +470,16 @@ public final class PromiseTest {
         Check.due("023: sign", later.triple(3, 3), -1);
         Check.due("023: relation", later.triple(3, 5), 0);
         Check.due("023: step", later.triple(3, 6), 3);
+
+        // Relation 3 derives 013 = 0, relation 4 leaves 024 open, and relation 1 (-012 * 134, 0 and 0)
+        // derives 012 = 0 in the next round all the same.
+        TripleSigns round = new TripleSigns();
+        runOf(round, "plus abe;zero acd;plus ade;zero bcd;minus bce;plus bde;plus cde;");
+        Check.due("derive()", round.derive(), 2);
+        Check.due("013: relation", round.triple(1, 5), 3);
+        Check.due("012: relation", round.triple(0, 5), 1);
+        Check.due("012: sign", round.triple(0, 3), 0);
+        Check.due("012: step", round.triple(0, 6), 2);
 
         // A later call goes on with the steps of those derived before.
         TripleSigns more = new TripleSigns();
@@ -528,6 +541,15 @@ public final class PromiseTest {
         Check.due("034", more.triple(5, 3), 1);
         Check.due("034: step", more.triple(5, 6), 2);
         Check.due("the same contradiction", more.count(8), 2);
+
+        // Relation 2 derives 124 = -1; then relation 3 has -1, -1 and 0. In the next call relation 1
+        // comes first, with -1, -1 and 0.
+        TripleSigns third = new TripleSigns();
+        runOf(third, "minus abc;plus abd;plus acd;plus ace;zero bcd;minus bde;plus cde;");
+        Check.due("derive()", third.derive(), 1);
+        Check.due("the contradiction", third.count(8), 3);
+        Check.due("derive() again", third.derive(), 0);
+        Check.due("another contradiction", third.count(8), 1);
     }
 
     // ---- promise 7
@@ -952,6 +974,14 @@ public final class PromiseTest {
         flat.give(1, 2, 3, -1);
         Check.due("some sign is 0", flat.isExtreme(1), true);
         Check.due("those of 0 are 0", flat.isExtreme(0), false);
+        // Of all lines only 01 is known.
+        TripleSigns one = new TripleSigns();
+        runOf(one, "plus abc;plus abd;zero abe;");
+        Check.due("by the line 01", one.isExtreme(0), true);
+        Check.due("by the line 10", one.isExtreme(1), true);
+        Check.due("by no line", one.isExtreme(2), false);
+        runOf(one, "minus abe;");
+        Check.due("on both sides", one.isExtreme(1), false);
         TripleSigns three = points(3);
         Check.due("unknown", three.isExtreme(0), false);
         three.give(0, 1, 2, 1);
@@ -985,6 +1015,12 @@ public final class PromiseTest {
         }
         Check.due("read()", eight.read(), 56);
         Check.due("28 lines", eight.lines(), 28);
+        TripleSigns odd = new TripleSigns();
+        runOf(odd, "zero abc;zero abd;plus abe;plus acd;plus ace;plus ade;zero bcd;");
+        runOf(odd, "plus bce;plus bde;plus cde;");
+        // 0123 (of 01, 12 and 13), 012, 013, 123 (of 23), and four of two points.
+        Check.due("lines that fit no points", odd.lines(), 8);
+
         // The line 01 has 2 then, 02 has 1 and 12 has 0: one line of three.
         eight.give(0, 1, 2, 0);
         Check.due("26 lines", eight.lines(), 26);
@@ -1537,6 +1573,7 @@ public final class PromiseTest {
         Check.due("written", x.written(56 * 9 - 1) != NONE, true);
         Check.due("forget()", x.forget(), 0);
         x.drop(5, 6, 7);
+        Check.due("567 follows from the others", x.completions(), 1);
         Check.due("derive()", x.derive(), 1);
         Check.due("567", x.triple(55, 4), 2);
         Check.due("its bit is not in its reasons", x.reasons(55) >>> 55, 0);
@@ -1549,6 +1586,7 @@ public final class PromiseTest {
             flat.give(flat.triple(t, 0), flat.triple(t, 1), flat.triple(t, 2), 0);
         }
         Check.due("one line", flat.lines(), 1);
+        Check.due("no side", flat.isExtreme(7), false);
         Check.due("scatter(3, 1, 50)", flat.scatter(3, 1, 50), 56);
         long s = (1103515245L * 3 + 12345L) % 2147483648L;
         Check.due("x of 0", flat.coordinate(0, 0), s / 65536 % 101 - 50);
