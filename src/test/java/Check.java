@@ -7,8 +7,14 @@ final class Check {
 
     private static int checks = 0;
     private static int wrong = 0;
+    private static String part = "";
 
     private Check() {
+    }
+
+    /** What the reports from now on belong to; "" for none. */
+    static void within(String name) {
+        part = name;
     }
 
     static void due(String what, long got, long want) {
@@ -34,6 +40,10 @@ final class Check {
         }
     }
 
+    static int checks() {
+        return checks;
+    }
+
     static int wrong() {
         return wrong;
     }
@@ -48,7 +58,7 @@ final class Check {
     private static void report(String line) {
         wrong++;
         if (wrong <= 50) {
-            System.out.println(line);
+            System.out.println(part.isEmpty() ? line : part + ": " + line);
         }
     }
 }
