@@ -29,16 +29,15 @@ final class AskingEdges {
         for (int s = 0; s < POINTS.length; s++) {
             int n = POINTS[s];
             for (int wrong : new int[] {-1, sizes[s], sizes[s] + 1, 280, Edges.NONE, Edges.MAX, Edges.MIN, 1 << 30}) {
-                Edges.refused(() -> Making.busy(n), Edges.IOOBE, told + " with " + wrong + " of " + n + " points",
-                        x -> call.on(x, wrong));
+                Edges.refused(n, Edges.IOOBE, told + " with " + wrong, x -> call.on(x, wrong));
             }
         }
     }
 
     private static void sign() {
-        String sentence = "The sign of an ordered triple (i, j, k) of points is 0 if two of them are equal; otherwise it "
-                + "is the sign of the triple {i, j, k}, multiplied by -1 if an odd number of exchanges brings i, j, k "
-                + "into ascending order. It is unknown if the triple is.";
+        String sentence = "The sign of an ordered triple (i, j, k) of points is 0 if two of them are equal; "
+                + "otherwise it is the sign of the triple {i, j, k}, multiplied by -1 if an odd number of exchanges "
+                + "brings i, j, k into ascending order. It is unknown if the triple is.";
         Edges.edge(11, sentence, "two and three equal points, also of unknown triples", () -> {
             TripleSigns x = new TripleSigns();
             for (int p = 0; p < 5; p++) {
@@ -75,7 +74,7 @@ final class AskingEdges {
             Check.due("unknown", x.sign(2, 3, 4), Edges.NONE);
         });
         Edges.edge(11, "Returns the sign of an ordered triple.", "nothing changes by it", () ->
-                Edges.changesNothing(() -> Making.busy(5), "sign(0, 1, 2)", x -> x.sign(0, 1, 2)));
+                Edges.changesNothing("sign(0, 1, 2)", x -> x.sign(0, 1, 2)));
     }
 
     private static void signRefuses() {
@@ -110,9 +109,11 @@ final class AskingEdges {
     }
 
     private static void triple() {
-        String what = "`what`: 0 to 2 its points in ascending order, 3 sign (NONE if it is unknown), 4 0 if it is unknown, "
-                + "1 if it is given or 2 if it is derived, 5 relation and 6 step of a derived one (otherwise NONE)";
-        Edges.edge(12, what, "a given triple", () -> dueTriple(Making.chain(), 1, 0, 1, 3, 0, 1, Edges.NONE, Edges.NONE));
+        String what = "`what`: 0 to 2 its points in ascending order, 3 sign (NONE if it is unknown), 4 0 if it is "
+                + "unknown, 1 if it is given or 2 if it is derived, 5 relation and 6 step of a derived one "
+                + "(otherwise NONE)";
+        Edges.edge(12, what, "a given triple", () ->
+                dueTriple(Making.chain(), 1, 0, 1, 3, 0, 1, Edges.NONE, Edges.NONE));
         Edges.edge(12, what, "a derived triple", () -> dueTriple(Making.chain(), 8, 1, 3, 4, 1, 2, 1, 2));
         Edges.edge(12, what, "a derived triple whose relation is number 0", () ->
                 dueTriple(Making.chain(), 2, 0, 1, 4, -1, 2, 0, 1));
@@ -135,7 +136,7 @@ final class AskingEdges {
             Check.due("derived", kinds[2], x.count(3));
         });
         Edges.edge(12, "Returns that value.", "nothing changes by it", () ->
-                Edges.changesNothing(() -> Making.busy(5), "triple(2, 6)", x -> x.triple(2, 6)));
+                Edges.changesNothing("triple(2, 6)", x -> x.triple(2, 6)));
     }
 
     private static void dueTriple(TripleSigns x, int triple, int... due) {
@@ -181,8 +182,8 @@ final class AskingEdges {
     }
 
     private static void reasons() {
-        String sentence = "The reasons of a triple with a sign are a set of given triples: the triple alone, if it is given; "
-                + "otherwise the union of the reasons of the other five triples of its relation.";
+        String sentence = "The reasons of a triple with a sign are a set of given triples: the triple alone, if it "
+                + "is given; otherwise the union of the reasons of the other five triples of its relation.";
         Edges.edge(13, sentence, "given ones of eight points, to the last bit", () -> {
             TripleSigns x = Making.parabola(8);
             for (int t = 0; t < 56; t++) {
@@ -208,7 +209,8 @@ final class AskingEdges {
                     | 1L << Making.number(8, 3, 6, 7);
             Check.due("reasons(53)", x.reasons(53), due);
         });
-        Edges.edge(13, "Returns the reasons as a bit mask of triples; 0 if the triple is unknown.", "unknown ones", () -> {
+        Edges.edge(13, "Returns the reasons as a bit mask of triples; 0 if the triple is unknown.",
+                "unknown ones", () -> {
             Check.due("a new object's", new TripleSigns().reasons(9), 0);
             TripleSigns x = Making.chain();
             Check.due("one that was never derived", x.reasons(9), 0);
@@ -224,7 +226,7 @@ final class AskingEdges {
         Edges.edge(13, "Throws `IndexOutOfBoundsException` if there is no such triple", "just outside and far", () ->
                 noSuchNumber(TRIPLES, "reasons", TripleSigns::reasons));
         Edges.edge(13, "Returns the reasons of a triple.", "nothing changes by it", () ->
-                Edges.changesNothing(() -> Making.busy(5), "reasons(2)", x -> x.reasons(2)));
+                Edges.changesNothing("reasons(2)", x -> x.reasons(2)));
     }
 
     private static void dueCounts(String told, TripleSigns x, int... due) {
@@ -234,9 +236,9 @@ final class AskingEdges {
     }
 
     private static void count() {
-        String what = "`what`: 0 n, 1 triples, 2 given triples, 3 derived ones, 4 unknown ones, 5 relations, 6 relations "
-                + "without unknown triples, 7 those of them that are violated, 8 the relation of the contradiction (NONE "
-                + "without one), 9 1 in the uniform mode or 0";
+        String what = "`what`: 0 n, 1 triples, 2 given triples, 3 derived ones, 4 unknown ones, 5 relations, 6 "
+                + "relations without unknown triples, 7 those of them that are violated, 8 the relation of the "
+                + "contradiction (NONE without one), 9 1 in the uniform mode or 0";
         Edges.edge(14, what, "three points, empty and full", () -> {
             dueCounts("empty", Making.points(3), 3, 1, 0, 0, 1, 0, 0, 0, Edges.NONE, 0);
             dueCounts("full", Making.parabola(3), 3, 1, 1, 0, 0, 0, 0, 0, Edges.NONE, 0);
@@ -280,7 +282,7 @@ final class AskingEdges {
         Edges.edge(14, "Returns a count.", "nothing changes by it", () -> {
             for (int what = 0; what <= 9; what++) {
                 int asked = what;
-                Edges.changesNothing(() -> Making.busy(5), "count(" + what + ")", x -> x.count(asked));
+                Edges.changesNothing("count(" + what + ")", x -> x.count(asked));
             }
         });
         Edges.edge(14, "Returns that count.", "the counts of triples add up", () -> {
@@ -292,8 +294,8 @@ final class AskingEdges {
     }
 
     private static void relation() {
-        String sentence = "For each point a and each four other points b < c < d < e there is a relation; the relations are "
-                + "numbered from 0 in the order of a, and then of (b, c, d, e) lexicographically.";
+        String sentence = "For each point a and each four other points b < c < d < e there is a relation; the "
+                + "relations are numbered from 0 in the order of a, and then of (b, c, d, e) lexicographically.";
         Edges.edge(15, sentence, "how many there are", () -> {
             int[] due = {0, 0, 5, 30, 105, 280};
             for (int n = 3; n <= 8; n++) {
@@ -318,11 +320,11 @@ final class AskingEdges {
         Edges.edge(15, "Returns a value of a relation.", "nothing changes by it", () -> {
             for (int what = 0; what <= 6; what++) {
                 int asked = what;
-                Edges.changesNothing(() -> Making.busy(5), "relation(1, " + what + ")", x -> x.relation(1, asked));
+                Edges.changesNothing("relation(1, " + what + ")", x -> x.relation(1, asked));
             }
         });
-        String what = "`what`: 0 to 4 a to e, 5 number of unknown triples, 6 1 if it has none and is fulfilled, "
-                + "-1 if it has none and is violated, otherwise 0";
+        String what = "`what`: 0 to 4 a to e, 5 number of unknown triples, 6 1 if it has none and is fulfilled, -1 "
+                + "if it has none and is violated, otherwise 0";
         Edges.edge(15, what, "six unknown, down to none", () -> {
             TripleSigns x = new TripleSigns();
             String[] commands = {"plus abc;", "plus ade;", "plus abd;", "plus ace;", "plus abe;"};
@@ -354,27 +356,19 @@ final class AskingEdges {
         }
     }
 
-    private static int factor(int[] signs, int i, int j, int k) {
-        int low = Math.min(i, Math.min(j, k));
-        int high = Math.max(i, Math.max(j, k));
-        return Making.parity(i, j, k) * signs[Making.number(5, low, i + j + k - low - high, high)];
-    }
-
     private static void products() {
         String sentence = "Its triples are the six triples of the following three products: s(a, b, c) * s(a, d, e), "
                 + "-s(a, b, d) * s(a, c, e), s(a, b, e) * s(a, c, d), where s is the sign of an ordered triple.";
-        Edges.edge(15, sentence, "each relation of five points by many signs", () -> {
-            long seed = 1;
-            for (int trial = 0; trial < 2000; trial++) {
-                int[] signs = new int[10];
-                TripleSigns x = new TripleSigns();
-                for (int t = 0; t < 10; t++) {
-                    seed = seed * 6364136223846793005L + 1442695040888963407L;
-                    signs[t] = (int) ((seed >>> 40) % 3) - 1;
-                    x.give(x.triple(t, 0), x.triple(t, 1), x.triple(t, 2), signs[t]);
-                }
-                for (int r = 0; r < 5; r++) {
-                    dueProducts(x, r, signs);
+        Edges.edge(15, sentence, "each relation of five points by all signs", () -> {
+            for (int relation = 0; relation < 5; relation++) {
+                for (int code = 0; code < 243; code++) {
+                    for (int last = -1; last <= 1; last++) {
+                        int[] signs = Making.signsBy(code, 5);
+                        signs[5] = last;
+                        TripleSigns x = Making.factorsGiven(relation, signs, -1);
+                        Check.due("relation(" + relation + ", 6)", x.relation(relation, 6),
+                                Making.fulfilled(signs) ? 1 : -1);
+                    }
                 }
             }
         });
@@ -399,23 +393,9 @@ final class AskingEdges {
         });
     }
 
-    private static void dueProducts(TripleSigns x, int r, int[] signs) {
-        int[] p = new int[5];
-        p[0] = r;
-        for (int m = 1; m < 5; m++) {
-            p[m] = m - 1 < r ? m - 1 : m;
-        }
-        int first = factor(signs, p[0], p[1], p[2]) * factor(signs, p[0], p[3], p[4]);
-        int second = -factor(signs, p[0], p[1], p[3]) * factor(signs, p[0], p[2], p[4]);
-        int third = factor(signs, p[0], p[1], p[4]) * factor(signs, p[0], p[2], p[3]);
-        boolean plus = first == 1 || second == 1 || third == 1;
-        boolean minus = first == -1 || second == -1 || third == -1;
-        Check.due("relation(" + r + ", 6)", x.relation(r, 6), plus == minus ? 1 : -1);
-    }
-
     private static void verdicts() {
-        String sentence = "A relation whose triples all have signs is fulfilled if the three products are all 0, or if at "
-                + "least one of them is 1 and at least one is -1; otherwise it is violated.";
+        String sentence = "A relation whose triples all have signs is fulfilled if the three products are all 0, or "
+                + "if at least one of them is 1 and at least one is -1; otherwise it is violated.";
         Edges.edge(15, sentence, "all 0", () -> dueVerdict(0, 0, 0, 1));
         Edges.edge(15, sentence, "1 and -1 with each third one", () -> {
             for (int third = -1; third <= 1; third++) {
@@ -462,7 +442,8 @@ final class AskingEdges {
                 Check.due("the last of " + n, x.relation(x.count(5) - 1, 0), n - 1);
             }
         });
-        Edges.edge(15, "Throws `IndexOutOfBoundsException` if there is no such relation", "just outside and far", () -> {
+        Edges.edge(15, "Throws `IndexOutOfBoundsException` if there is no such relation",
+                "just outside and far", () -> {
             for (int what = 0; what <= 6; what++) {
                 int asked = what;
                 noSuchNumber(RELATIONS, "relation(r, " + what + ")", (x, wrong) -> x.relation(wrong, asked));
@@ -491,7 +472,8 @@ final class AskingEdges {
     }
 
     private static void behind() {
-        String sentence = "The reasons of a relation are the union of the reasons of those of its triples that have signs.";
+        String sentence = "The reasons of a relation are the union of the reasons of those of its triples that have "
+                + "signs.";
         Edges.edge(16, sentence, "none has a sign", () -> {
             Check.due("behind(0)", new TripleSigns().behind(0), 0);
             Check.due("behind(279)", Making.points(8).behind(279), 0);
@@ -521,6 +503,6 @@ final class AskingEdges {
         Edges.edge(16, "Throws `IndexOutOfBoundsException` if there is no such relation", "just outside and far", () ->
                 noSuchNumber(RELATIONS, "behind", TripleSigns::behind));
         Edges.edge(16, "Returns the reasons of a relation.", "nothing changes by it", () ->
-                Edges.changesNothing(() -> Making.busy(5), "behind(1)", x -> x.behind(1)));
+                Edges.changesNothing("behind(1)", x -> x.behind(1)));
     }
 }

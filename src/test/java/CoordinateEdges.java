@@ -125,7 +125,7 @@ final class CoordinateEdges {
             duePlace("none again", x, 0, Edges.NONE, Edges.NONE);
         });
         Edges.edge(22, "Returns a coordinate of a point.", "nothing changes by it", () ->
-                Edges.changesNothing(() -> Making.busy(5), "coordinate(0, 1)", x -> x.coordinate(0, 1)));
+                Edges.changesNothing("coordinate(0, 1)", x -> x.coordinate(0, 1)));
     }
 
     private static void coordinateRefuses() {
@@ -140,7 +140,8 @@ final class CoordinateEdges {
             Edges.noSuchPoint("coordinate(p, 0)", (x, wrong) -> x.coordinate(wrong, 0));
             Edges.noSuchPoint("coordinate(p, 1)", (x, wrong) -> x.coordinate(wrong, 1));
         });
-        Edges.edge(22, "Throws `IllegalArgumentException` if what is out of range", "with coordinates and without", () -> {
+        Edges.edge(22, "Throws `IllegalArgumentException` if what is out of range",
+                "with coordinates and without", () -> {
             int[] wrong = {-1, 2, Edges.NONE, Edges.MAX, Edges.MIN};
             Edges.refusedEach(wrong, Edges.IAE, "coordinate(0, what)", (x, what) -> x.coordinate(0, what));
             Edges.refusedEach(wrong, Edges.IAE, "coordinate(1, what)", (x, what) -> x.coordinate(1, what));
@@ -154,8 +155,8 @@ final class CoordinateEdges {
     // ---- promise 23
 
     private static void read() {
-        String sentence = "Returns how many triples have points that all have coordinates "
-                + "(also those that had this sign already).";
+        String sentence = "Returns how many triples have points that all have coordinates (also those that had this "
+                + "sign already).";
         Edges.edge(23, sentence, "fewer than three points with coordinates", () -> {
             TripleSigns x = Making.points(8);
             Check.due("no point", x.read(), 0);
@@ -208,8 +209,8 @@ final class CoordinateEdges {
     }
 
     private static void readSigns() {
-        String sentence = "The sign of an ordered triple of points (i, j, k) with coordinates by these is the sign of "
-                + "(xj - xi) * (yk - yi) - (yj - yi) * (xk - xi).";
+        String sentence = "The sign of an ordered triple of points (i, j, k) with coordinates by these is the sign "
+                + "of (xj - xi) * (yk - yi) - (yj - yi) * (xk - xi).";
         Edges.edge(23, sentence, "the greatest triangles", () -> {
             Check.due("left", signAt(-50, -50, 50, -50, 50, 50), 1);
             Check.due("right", signAt(50, 50, 50, -50, -50, -50), -1);
@@ -253,8 +254,8 @@ final class CoordinateEdges {
             Check.due("read()", against.read(), 1);
             Check.due("contradiction", against.count(8), 1);
         });
-        String change = "Whenever a given sign changes (but by mirror() and turn()) or is taken away, all derived triples "
-                + "become unknown, and a contradiction is forgotten.";
+        String change = "Whenever a given sign changes (but by mirror() and turn()) or is taken away, all derived "
+                + "triples become unknown, and a contradiction is forgotten.";
         Edges.edge(23, change, "another sign", () -> {
             TripleSigns x = placed(Making.chain(), 0, 0, 0, 1, 1, 0);
             Check.due("read()", x.read(), 1);
@@ -275,8 +276,8 @@ final class CoordinateEdges {
             Check.due("contradiction", against.count(8), Edges.NONE);
             Check.due("derived", against.count(3), 1);
         });
-        Edges.edge(23, "A derived triple that is given a sign, also the one that it has, becomes a given one, which counts "
-                + "as a change: all other derived triples become unknown.", "the sign that it has", () -> {
+        Edges.edge(23, "A derived triple that is given a sign, also the one that it has, becomes a given one, which "
+                + "counts as a change: all other derived triples become unknown.", "the sign that it has", () -> {
             TripleSigns x = Making.chain();
             x.place(0, 0, 0);
             x.place(1, 0, 1);
@@ -287,7 +288,8 @@ final class CoordinateEdges {
             Check.due("134: kind", x.triple(8, 4), 0);
             Check.due("given", x.count(2), 8);
         });
-        Edges.edge(23, "Gives all triples whose points have coordinates", "two derived triples become given ones", () -> {
+        Edges.edge(23, "Gives all triples whose points have coordinates",
+                "two derived triples become given ones", () -> {
             // 014 and 134 have the signs that they get; 013 and 034 get others.
             TripleSigns x = Making.chain();
             x.place(0, 0, 0);
@@ -327,8 +329,8 @@ final class CoordinateEdges {
     // ---- promise 24
 
     private static void mismatches() {
-        String sentence = "A mismatch is a triple with a sign whose points have coordinates, and whose sign by these (in "
-                + "ascending order of the points) is another one.";
+        String sentence = "A mismatch is a triple with a sign whose points have coordinates, and whose sign by these "
+                + "(in ascending order of the points) is another one.";
         Edges.edge(24, sentence, "no sign", () ->
                 Check.due("mismatches()", placed(new TripleSigns(), 0, 0, 1, 0, 0, 1).mismatches(), 0));
         Edges.edge(24, sentence, "no coordinates", () -> {
@@ -368,7 +370,7 @@ final class CoordinateEdges {
             }
         });
         Edges.edge(24, "Returns the number.", "nothing changes by it", () ->
-                Edges.changesNothing(() -> Making.busy(5), "mismatches()", TripleSigns::mismatches));
+                Edges.changesNothing("mismatches()", TripleSigns::mismatches));
     }
 
     // ---- promise 25
@@ -440,9 +442,9 @@ final class CoordinateEdges {
     }
 
     private static void scatterPlacements() {
-        String sentence = "A placement at random in a range r is made like this: a number s is the seed at first; for each "
-                + "point in ascending order s becomes (1103515245 * s + 12345) modulo 2147483648 for x, and then in the same "
-                + "way for y; each is (s / 65536, rounded down) modulo (2r + 1), minus r.";
+        String sentence = "A placement at random in a range r is made like this: a number s is the seed at first; "
+                + "for each point in ascending order s becomes (1103515245 * s + 12345) modulo 2147483648 for x, and "
+                + "then in the same way for y; each is (s / 65536, rounded down) modulo (2r + 1), minus r.";
         Edges.edge(25, sentence, "the first numbers, by hand", () -> {
             // 12345 / 65536 is 0; 1103515245 * 12345 + 12345 is 1406932606 behind the wrap-around, of which
             // 21468 is left, and 21468 modulo 101 is 56.
@@ -520,7 +522,8 @@ final class CoordinateEdges {
             dueBest(Making::chain, 17, 50, 4);
             dueBest(Making::contradicted, 18, 50, 4);
         });
-        Edges.edge(25, "Of several placements the next one goes on with s.", "the first, the last, and others are best", () -> {
+        Edges.edge(25, "Of several placements the next one goes on with s.",
+                "the first, the last, and others are best", () -> {
             int firsts = 0;
             int lasts = 0;
             for (int seed = 0; seed < 300; seed++) {

@@ -1,17 +1,15 @@
 /** Edges of promises 6 and 7: deriving, contradictions, and forgetting what was derived. */
 final class DerivingEdges {
-    private static final String POSSIBLE = "For a relation with exactly one unknown triple, the possible signs of this "
-            + "triple are those of -1, 0 and 1 (in the uniform mode only -1 and 1) with which the relation is fulfilled.";
-    private static final String ONE = "If there is exactly one, the triple gets it at once, as a derived one; it has the "
-            + "relation, and the step: the number of triples that are derived then, itself included.";
-    private static final String NONE = "If there is none, or a relation without unknown triples is violated, this is a "
-            + "contradiction with this relation, and deriving ends.";
+    private static final String POSSIBLE = "For a relation with exactly one unknown triple, the possible signs of "
+            + "this triple are those of -1, 0 and 1 (in the uniform mode only -1 and 1) with which the relation is "
+            + "fulfilled.";
+    private static final String ONE = "If there is exactly one, the triple gets it at once, as a derived one; it has "
+            + "the relation, and the step: the number of triples that are derived then, itself included.";
+    private static final String NONE = "If there is none, or a relation without unknown triples is violated, this is "
+            + "a contradiction with this relation, and deriving ends.";
     private static final String ROUNDS = "To derive means: a contradiction is forgotten; then the relations are gone "
             + "through in ascending order, again and again, until they have been gone through once without a change, "
             + "or there is a contradiction.";
-
-    // The factors of relation 0, whose second product counts with its sign turned.
-    private static final String[] FACTORS = {"abc", "ade", "abd", "ace", "abe", "acd"};
 
     private DerivingEdges() {
     }
@@ -26,15 +24,6 @@ final class DerivingEdges {
         rounds();
         answers();
         forget();
-    }
-
-    private static String word(int sign) {
-        return sign > 0 ? "plus " : sign < 0 ? "minus " : "zero ";
-    }
-
-    private static boolean fulfilled(int p, int q, int r) {
-        boolean all = p == 0 && q == 0 && r == 0;
-        return all || Math.max(p, Math.max(q, r)) == 1 && Math.min(p, Math.min(q, r)) == -1;
     }
 
     private static void nothing() {
@@ -104,43 +93,37 @@ final class DerivingEdges {
     }
 
     private static void everyFactor() {
-        Edges.edge(6, POSSIBLE, "each triple of relation 0 by all signs of the others, in both modes", () -> {
-            for (int unknown = 0; unknown < 6; unknown++) {
-                for (int code = 0; code < 243; code++) {
-                    everySign(unknown, code, false);
-                    everySign(unknown, code, true);
+        Edges.edge(6, POSSIBLE, "each triple of each relation of five points by all signs of the others", () -> {
+            for (int relation = 0; relation < 5; relation++) {
+                for (int unknown = 0; unknown < 6; unknown++) {
+                    for (int code = 0; code < 243; code++) {
+                        everySign(relation, unknown, Making.signsBy(code, unknown), false);
+                        everySign(relation, unknown, Making.signsBy(code, unknown), true);
+                    }
                 }
             }
         });
     }
 
-    private static void everySign(int unknown, int code, boolean uniform) {
-        int[] signs = new int[6];
-        StringBuilder script = new StringBuilder();
-        int rest = code;
-        for (int f = 0; f < 6; f++) {
-            if (f != unknown) {
-                signs[f] = rest % 3 - 1;
-                rest /= 3;
-                script.append(word(signs[f])).append(FACTORS[f]).append(';');
-            }
-        }
+    private static void everySign(int relation, int unknown, int[] signs, boolean uniform) {
+        TripleSigns x = Making.factorsGiven(relation, signs, unknown);
+        x.setUniform(uniform);
+        x.derive();
         int fitting = 0;
         int found = Edges.NONE;
         for (int sign = -1; sign <= 1; sign++) {
             signs[unknown] = sign;
-            boolean fits = fulfilled(signs[0] * signs[1], -signs[2] * signs[3], signs[4] * signs[5]);
-            if (fits && !(uniform && sign == 0)) {
+            if (Making.fulfilled(signs) && !(uniform && sign == 0)) {
                 fitting++;
                 found = sign;
             }
         }
-        TripleSigns x = derived(script.toString(), uniform);
-        String told = script + " then " + FACTORS[unknown];
-        String name = FACTORS[unknown];
-        int got = x.sign(name.charAt(0) - 'a', name.charAt(1) - 'a', name.charAt(2) - 'a');
-        Check.due(told, got, fitting == 1 ? found : Edges.NONE);
-        Check.due(told + ", contradiction", x.count(8), fitting == 0 ? 0 : Edges.NONE);
+        int[] p = Making.factors(relation)[unknown];
+        String told = "factor " + unknown + " of relation " + relation;
+        Check.due(told, x.sign(p[0], p[1], p[2]), fitting == 1 ? found : Edges.NONE);
+        Check.due(told + ", contradiction", x.count(8), fitting == 0 ? relation : Edges.NONE);
+        Check.due(told + ", forget()", x.forget(), fitting == 1 ? 1 : 0);
+        Check.due(told + " forgotten", x.sign(p[0], p[1], p[2]), Edges.NONE);
     }
 
     private static void one() {
@@ -225,7 +208,8 @@ final class DerivingEdges {
         Edges.edge(6, NONE, "nothing is derived after it", () -> {
             // Relation 1 derives 014 = 0; then relation 2 has 1, 0 and 1. Another round would derive 034
             // from relation 0.
-            TripleSigns x = Making.signs("minus abc;plus abd;plus acd;minus ace;minus bcd;zero bce;zero bde;minus cde;");
+            TripleSigns x = Making.signs("minus abc;plus abd;plus acd;minus ace;minus bcd;zero bce;zero bde;"
+                    + "minus cde;");
             Check.due("derive()", x.derive(), 1);
             Check.due("contradiction", x.count(8), 2);
             Check.due("034", x.triple(5, 4), 0);
@@ -234,7 +218,8 @@ final class DerivingEdges {
             // Relation 0 has 1, 0 and 0; relation 139 (d with e to h) would derive 356.
             TripleSigns x = Making.signs(8, "plus abc;plus ade;zero abd;plus ace;zero abe;plus acd;");
             Making.run(x, "zero efh;plus egh;plus def;zero deg;plus dfh;plus deh;plus dgh;plus efg;");
-            TripleSigns without = Making.signs(8, "zero efh;plus egh;plus def;zero deg;plus dfh;plus deh;plus dgh;plus efg;");
+            TripleSigns without = Making.signs(8, "zero efh;plus egh;plus def;zero deg;plus dfh;plus deh;plus dgh;"
+                    + "plus efg;");
             without.derive();
             Check.due("356 without a contradiction: relation", without.triple(49, 5), 139);
             Check.due("derive() with it", x.derive(), 0);
@@ -251,10 +236,27 @@ final class DerivingEdges {
             Check.due("contradiction", x.count(8), 3);
             Check.due("derive() again", x.derive(), 0);
             Check.due("contradiction again", x.count(8), 0);
+            // Relation 2 derives 124 = -1; then relation 3 has -1, -1 and 0. In the next call relation 1
+            // comes first, with -1, -1 and 0.
+            TripleSigns later = Making.signs("minus abc;plus abd;plus acd;plus ace;zero bcd;minus bde;plus cde;");
+            Check.due("derive()", later.derive(), 1);
+            Check.due("contradiction", later.count(8), 3);
+            Check.due("derive() again", later.derive(), 0);
+            Check.due("contradiction again", later.count(8), 1);
+        });
+        Edges.edge(6, ROUNDS, "a contradiction is forgotten, and something is derived in front of it", () -> {
+            // As in "nothing is derived after it"; the next call derives 034 before it finds relation 2 again.
+            TripleSigns x = Making.signs("minus abc;plus abd;plus acd;minus ace;minus bcd;zero bce;zero bde;"
+                    + "minus cde;");
+            Check.due("derive()", x.derive(), 1);
+            Check.due("derive() again", x.derive(), 1);
+            Check.due("034", x.triple(5, 3), 1);
+            Check.due("034: step", x.triple(5, 6), 2);
+            Check.due("contradiction again", x.count(8), 2);
         });
         Edges.edge(6, ROUNDS, "four rounds of six points", () -> {
-            TripleSigns x = Making.signs(6, "minus abd;zero abe;plus acd;plus ace;zero adf;zero aef;zero bce;minus bcf;"
-                    + "minus bdf;zero bef;plus cdf;plus cef;");
+            TripleSigns x = Making.signs(6, "minus abd;zero abe;plus acd;plus ace;zero adf;zero aef;zero bce;"
+                    + "minus bcf;minus bdf;zero bef;plus cdf;plus cef;");
             Check.due("derive()", x.derive(), 5);
             int[] triples = {19, 3, 6, 0, 7};
             int[] relations = {29, 27, 28, 12, 0};

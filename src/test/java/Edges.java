@@ -77,8 +77,14 @@ final class Edges {
     /** As refused(), on objects that hold much, with three, five and eight points. */
     static void refused(Class<? extends RuntimeException> want, String told, Call call) {
         for (int n : new int[] {3, 5, 8}) {
-            refused(() -> Making.busy(n), want, told + " of " + n + " points", call);
+            refused(n, want, told, call);
         }
+    }
+
+    /** As refused(), on objects that hold much, with so many points. */
+    static void refused(int n, Class<? extends RuntimeException> want, String told, Call call) {
+        refused(() -> Making.busy(n), want, told + " of " + n + " points", call);
+        refused(() -> Making.ready(n), want, told + " of " + n + " points, not derived", call);
     }
 
     /** As refused(), with every wrong argument. */
@@ -92,8 +98,7 @@ final class Edges {
     static void noSuchPoint(String told, CallWith call) {
         for (int n : new int[] {3, 5, 8}) {
             for (int wrong : new int[] {-1, n, n + 1, 8, NONE, MAX, MIN}) {
-                refused(() -> Making.busy(n), IOOBE, told + " with " + wrong + " of " + n + " points",
-                        x -> call.on(x, wrong));
+                refused(n, IOOBE, told + " with " + wrong, x -> call.on(x, wrong));
             }
         }
     }
@@ -121,20 +126,23 @@ final class Edges {
         }
     }
 
-    /** The call saves one state, which is the one from before it. */
+    /** The call saves one state, which is the one from before it; the stack must have room for it. */
     static void undoable(Maker maker, String told, Call call) {
         TripleSigns x = maker.make();
-        TripleSigns twin = maker.make();
-        int before = Making.states(maker);
+        int states = Making.states(maker);
+        long before = x.digest();
         call.on(x);
-        Check.due(told + ", undo()", x.undo(), before);
-        same(told + " undone", x, twin);
+        Check.due(told + ", undo()", x.undo(), states);
+        Check.due(told + ", digest() undone", x.digest(), before);
+        same(told + " undone", x, maker.make());
     }
 
     /** As undoable(), on objects that hold much, with three, five and eight points. */
     static void undoable(String told, Call call) {
         for (int n : new int[] {3, 5, 8}) {
-            undoable(() -> Making.busyWithRoom(n), told + " of " + n + " points", call);
+            undoable(() -> Making.busyUniform(n), told + " of " + n + " points", call);
+            undoable(() -> Making.busyPlaced(n), told + " of " + n + " placed points", call);
+            undoable(() -> Making.ready(n), told + " of " + n + " points, not derived", call);
         }
     }
 
@@ -143,5 +151,12 @@ final class Edges {
         TripleSigns x = maker.make();
         call.on(x);
         same(told, x, maker.make());
+    }
+
+    /** As changesNothing(), on objects of five points that hold much. */
+    static void changesNothing(String told, Call call) {
+        changesNothing(() -> Making.busy(5), told, call);
+        changesNothing(() -> Making.ready(5), told + ", not derived", call);
+        changesNothing(Making::full, told + ", nothing unknown", call);
     }
 }

@@ -1,3 +1,6 @@
+import java.util.HashSet;
+import java.util.Set;
+
 /** Edges of promises 17 to 20: completions, cocircuits, extreme points and lines. */
 final class FollowingEdges {
     private static final String FIRST =
@@ -24,11 +27,13 @@ final class FollowingEdges {
 
     /** Six points, all triples with 0 given as 1: ten triples are unknown. */
     private static TripleSigns ten() {
-        return Making.signs(6, "plus abc;plus abd;plus abe;plus abf;plus acd;plus ace;plus acf;plus ade;plus adf;plus aef;");
+        return Making.signs(6, "plus abc;plus abd;plus abe;plus abf;plus acd;plus ace;plus acf;plus ade;plus adf;"
+                + "plus aef;");
     }
 
     private static void completions() {
-        String sentence = "Counts the ways to give each unknown triple a sign, 1 or -1, such that no relation is violated.";
+        String sentence = "Counts the ways to give each unknown triple a sign, 1 or -1, such that no relation is "
+                + "violated.";
         Edges.edge(17, sentence, "without relations every way counts", () -> {
             Check.due("three points", Making.points(3).completions(), 2);
             Check.due("four points", Making.points(4).completions(), 16);
@@ -36,14 +41,24 @@ final class FollowingEdges {
         });
         Edges.edge(17, sentence, "ten unknown of five points", () ->
                 Check.due("completions()", new TripleSigns().completions(), 384));
-        Edges.edge(17, sentence, "ten unknown of six points", () -> Check.due("completions()", ten().completions(), 62));
+        Edges.edge(17, sentence,
+                "ten unknown of six points", () -> Check.due("completions()", ten().completions(), 62));
         Edges.edge(17, sentence, "0 is no way", () ->
-                Check.due("completions()", Making.signs("zero abc;plus ade;zero abd;plus ace;plus acd;zero bcd;zero bce;"
-                        + "zero bde;zero cde;").completions(), 0));
+                Check.due("completions()", Making.signs("zero abc;plus ade;zero abd;plus ace;plus acd;zero bcd;"
+                        + "zero bce;zero bde;zero cde;").completions(), 0));
         Edges.edge(17, sentence, "a violated relation leaves none", () -> {
             TripleSigns x = Making.signs("plus abc;plus ade;zero abd;plus ace;zero abe;plus acd;");
             Check.due("some are unknown", x.count(4), 4);
             Check.due("completions()", x.completions(), 0);
+        });
+        Edges.edge(17, sentence, "each triple of each relation of five points by all signs of the others", () -> {
+            for (int relation = 0; relation < 5; relation++) {
+                for (int unknown = 0; unknown < 6; unknown++) {
+                    for (int code = 0; code < 243; code++) {
+                        dueWays(relation, unknown, Making.signsBy(code, unknown));
+                    }
+                }
+            }
         });
         Edges.edge(17, sentence, "1 alone, -1 alone, and both", () -> {
             String rest = "plus ade;plus ace;plus acd;zero bcd;zero bce;zero bde;zero cde;";
@@ -59,10 +74,30 @@ final class FollowingEdges {
         });
     }
 
+    /** With 0 for all triples without its first point no other relation can be violated. */
+    private static void dueWays(int relation, int unknown, int[] signs) {
+        TripleSigns x = Making.factorsGiven(relation, signs, unknown);
+        for (int i = 0; i < 5; i++) {
+            for (int j = i + 1; j < 5; j++) {
+                for (int k = j + 1; k < 5; k++) {
+                    if (i != relation && j != relation && k != relation) {
+                        x.give(i, j, k, 0);
+                    }
+                }
+            }
+        }
+        int ways = 0;
+        for (int sign = -1; sign <= 1; sign += 2) {
+            signs[unknown] = sign;
+            ways += Making.fulfilled(signs) ? 1 : 0;
+        }
+        Check.due("completions() for factor " + unknown + " of relation " + relation, x.completions(), ways);
+    }
+
     private static void completionsCount() {
         Edges.edge(17, "(Derived signs stay.)", "a derived 0 is no unknown triple", () -> {
-            TripleSigns x = Making.signs("zero abc;plus ade;zero abd;plus ace;plus acd;zero bcd;zero bce;"
-                    + "zero bde;zero cde;");
+            TripleSigns x = Making.signs("zero abc;plus ade;zero abd;plus ace;plus acd;zero bcd;zero bce;zero bde;"
+                    + "zero cde;");
             Check.due("derive()", x.derive(), 1);
             Check.due("completions()", x.completions(), 1);
             x.forget();
@@ -73,7 +108,7 @@ final class FollowingEdges {
         Edges.edge(17, "Nothing changes.", "ten unknown ones, none, and a violated relation", () -> {
             Edges.changesNothing(FollowingEdges::ten, "completions()", TripleSigns::completions);
             Edges.changesNothing(() -> Making.parabola(8), "completions()", TripleSigns::completions);
-            Edges.changesNothing(() -> Making.busy(5), "completions()", TripleSigns::completions);
+            Edges.changesNothing("completions()", TripleSigns::completions);
             Edges.changesNothing(() -> Making.busy(3), "completions()", TripleSigns::completions);
         });
         Edges.edge(17, "Returns the number of ways; 1 if no triple is unknown and no relation is violated.",
@@ -138,7 +173,8 @@ final class FollowingEdges {
         Edges.edge(17, sentence, "20, 35 and 56", () -> {
             for (int n = 6; n <= 8; n++) {
                 int points = n;
-                Edges.refused(() -> Making.points(points), Edges.ISE, "completions() of " + n, TripleSigns::completions);
+                Edges.refused(() -> Making.points(points), Edges.ISE, "completions() of " + n,
+                        TripleSigns::completions);
             }
         });
         Edges.edge(17, sentence, "also where a relation is violated", () ->
@@ -164,7 +200,8 @@ final class FollowingEdges {
     // ---- promise 18
 
     private static void cocircuit() {
-        String sentence = "The cocircuit of two different points i, j consists of the signs of (i, j, x) for all points x.";
+        String sentence = "The cocircuit of two different points i, j consists of the signs of (i, j, x) for all "
+                + "points x.";
         Edges.edge(18, sentence, "the two points themselves count 0", () -> {
             TripleSigns x = Making.parabola(3);
             Check.due("cocircuit(0, 1)", x.cocircuit(0, 1), 16);
@@ -174,8 +211,8 @@ final class FollowingEdges {
             Check.due("cocircuit(1, 2)", x.cocircuit(1, 2), 1);
             Check.due("cocircuit(2, 1)", x.cocircuit(2, 1), 2);
         });
-        String sum = "Returns the sum of (1 if the sign of (i, j, x) is 1, 2 if it is -1, otherwise 0) * 4 to the power of x, "
-                + "over all points x.";
+        String sum = "Returns the sum of (1 if the sign of (i, j, x) is 1, 2 if it is -1, otherwise 0) * 4 to the "
+                + "power of x, over all points x.";
         Edges.edge(18, sum, "1, -1 and 0", () -> {
             TripleSigns x = Making.signs("plus abc;minus abd;zero abe;");
             Check.due("cocircuit(0, 1)", x.cocircuit(0, 1), 16 + 2 * 64);
@@ -188,7 +225,7 @@ final class FollowingEdges {
         Edges.edge(18, sum, "derived signs count", () ->
                 Check.due("cocircuit(0, 1)", Making.chain().cocircuit(0, 1), 16 + 2 * 256));
         Edges.edge(18, "Returns a cocircuit.", "nothing changes by it", () ->
-                Edges.changesNothing(() -> Making.parabola(8), "cocircuit(0, 1)", x -> x.cocircuit(0, 1)));
+                Edges.changesNothing(Making::full, "cocircuit(0, 1)", x -> x.cocircuit(0, 1)));
     }
 
     private static void cocircuitBounds() {
@@ -259,9 +296,9 @@ final class FollowingEdges {
 
     // ---- promise 19
 
-    private static final String EXTREME = "A point i is extreme if there is a point j, different from it, such that the "
-            + "signs of (i, j, x) are known for all other points x, not all of them are 0, and none of them is -1 or none "
-            + "of them is 1.";
+    private static final String EXTREME = "A point i is extreme if there is a point j, different from it, such that "
+            + "the signs of (i, j, x) are known for all other points x, not all of them are 0, and none of them is "
+            + "-1 or none of them is 1.";
 
     private static void extreme() {
         Edges.edge(19, EXTREME, "nothing is known", () -> {
@@ -331,7 +368,7 @@ final class FollowingEdges {
             }
         });
         Edges.edge(19, "Returns true if it is.", "nothing changes by it", () ->
-                Edges.changesNothing(() -> Making.busy(5), "isExtreme(0)", x -> x.isExtreme(0) ? 1 : 0));
+                Edges.changesNothing("isExtreme(0)", x -> x.isExtreme(0) ? 1 : 0));
     }
 
     private static void extremeRefuses() {
@@ -348,8 +385,8 @@ final class FollowingEdges {
     // ---- promise 20
 
     private static void lines() {
-        String sentence = "The line of two different points i, j consists of i, j and all points x for which the sign of "
-                + "(i, j, x) is 0.";
+        String sentence = "The line of two different points i, j consists of i, j and all points x for which the "
+                + "sign of (i, j, x) is 0.";
         Edges.edge(20, sentence, "no sign is 0: a line for each two points", () -> {
             for (int n = 3; n <= 8; n++) {
                 Check.due("lines() of " + n, Making.parabola(n).lines(), n * (n - 1) / 2);
@@ -371,7 +408,35 @@ final class FollowingEdges {
         Edges.edge(20, "Returns the number of different lines of two points.", "signs that no points have", () ->
                 // 0123 (of 01), 012 (of 02 and 12), 013 (of 03 and 13), 23.
                 Check.due("lines()", Making.signs(4, "zero abc;zero abd;plus acd;plus bcd;").lines(), 4));
-        Edges.edge(20, "Returns the number of different lines of two points.", "seven on a line and one beside it", () -> {
+        Edges.edge(20, "Returns the number of different lines of two points.", "all signs of four points", () -> {
+            for (int code = 0; code < 81; code++) {
+                TripleSigns x = Making.points(4);
+                int rest = code;
+                for (int without = 3; without >= 0; without--) {
+                    int[] p = {without == 0 ? 1 : 0, without <= 1 ? 2 : 1, without <= 2 ? 3 : 2};
+                    x.give(p[0], p[1], p[2], rest % 3 - 1);
+                    rest /= 3;
+                }
+                Set<Set<Integer>> lines = new HashSet<>();
+                for (int i = 0; i < 4; i++) {
+                    for (int j = i + 1; j < 4; j++) {
+                        lines.add(line(x, i, j));
+                    }
+                }
+                Check.due("lines() of code " + code, x.lines(), lines.size());
+            }
+        });
+        Edges.edge(20, "Returns the number of different lines of two points.", "asked twice", () -> {
+            TripleSigns x = Making.parabola(8);
+            Check.due("lines()", x.lines(), 28);
+            Check.due("lines() again", x.lines(), 28);
+            x.give(0, 1, 2, 0);
+            Check.due("lines() with three on a line", x.lines(), 26);
+            x.undo();
+            Check.due("lines() as at first", x.lines(), 28);
+        });
+        Edges.edge(20, "Returns the number of different lines of two points.",
+                "seven on a line and one beside it", () -> {
             TripleSigns x = Making.flat(8);
             x.place(7, 0, 50);
             x.read();
@@ -383,8 +448,19 @@ final class FollowingEdges {
         });
         Edges.edge(20, "Returns the number.", "nothing changes by it", () -> {
             Edges.changesNothing(() -> Making.parabola(8), "lines()", TripleSigns::lines);
+            Edges.changesNothing(Making::full, "lines()", TripleSigns::lines);
             Edges.changesNothing(() -> Making.flat(3), "lines()", TripleSigns::lines);
         });
+    }
+
+    private static Set<Integer> line(TripleSigns x, int i, int j) {
+        Set<Integer> line = new HashSet<>();
+        for (int p = 0; p < 4; p++) {
+            if (x.sign(i, j, p) == 0) {
+                line.add(p);
+            }
+        }
+        return line;
     }
 
     private static void linesRefuse() {

@@ -30,7 +30,8 @@ final class GivingEdges {
             Check.dueThrow("sign(0, 4, 5)", Edges.IOOBE, () -> x.sign(0, 4, 5));
             Check.dueThrow("sign(-1, 0, 4)", Edges.IOOBE, () -> x.sign(-1, 0, 4));
         });
-        Edges.edge(1, "A triple is a set of three points i < j < k; the triples are numbered from 0 in lexicographic order.",
+        Edges.edge(1, "A triple is a set of three points i < j < k; the triples are numbered from 0 in lexicographic "
+                + "order.",
                 "a new object has ten", () -> {
             TripleSigns x = new TripleSigns();
             Check.due("count(1)", x.count(1), 10);
@@ -50,7 +51,8 @@ final class GivingEdges {
                 Check.due("kind of " + t, x.triple(t, 4), 0);
             }
         });
-        Edges.edge(1, "A point may have coordinates x and y (-50 to 50); it has none at first.", "no point has any", () -> {
+        Edges.edge(1, "A point may have coordinates x and y (-50 to 50); it has none at first.",
+                "no point has any", () -> {
             TripleSigns x = new TripleSigns();
             for (int p = 0; p < 5; p++) {
                 Check.due("x of " + p, x.coordinate(p, 0), Edges.NONE);
@@ -65,8 +67,8 @@ final class GivingEdges {
     }
 
     private static void newObjectIsEmpty() {
-        String sentence = "Creates a workbench as described, without signs and coordinates, "
-                + "with an empty script and an empty undo stack.";
+        String sentence = "Creates a workbench as described, without signs and coordinates, with an empty script and "
+                + "an empty undo stack.";
         Edges.edge(1, sentence, "no sign is given or derived, and there is no contradiction", () -> {
             TripleSigns x = new TripleSigns();
             Check.due("given", x.count(2), 0);
@@ -227,7 +229,8 @@ final class GivingEdges {
             Check.due("the last of three", Making.points(3).give(0, 1, 2, 1), Edges.NONE);
             Check.due("the last of eight", Making.points(8).give(0, 1, 7, 1), Edges.NONE);
         });
-        Edges.edge(3, "Gives a triple a sign, which is told for an ordered triple.", "each order of each triple", () -> {
+        Edges.edge(3, "Gives a triple a sign, which is told for an ordered triple.",
+                "each order of each triple", () -> {
             for (int i = 0; i < 8; i++) {
                 for (int j = 0; j < 8; j++) {
                     for (int k = 0; k < 8; k++) {
@@ -240,7 +243,8 @@ final class GivingEdges {
             Check.due("an even order", new TripleSigns().give(1, 2, 0, 1), Edges.NONE);
             Check.due("an odd order", new TripleSigns().give(2, 1, 0, 1), Edges.NONE);
         });
-        Edges.edge(3, "Returns the sign of the ordered triple before; NONE if it was unknown.", "each sign before", () -> {
+        Edges.edge(3, "Returns the sign of the ordered triple before; NONE if it was unknown.",
+                "each sign before", () -> {
             for (int sign = -1; sign <= 1; sign++) {
                 TripleSigns x = new TripleSigns();
                 x.give(0, 1, 2, sign);
@@ -253,7 +257,7 @@ final class GivingEdges {
             for (int sign = -1; sign <= 1; sign++) {
                 int given = sign;
                 Edges.undoable("give(0, 1, 2, " + sign + ")", x -> x.give(0, 1, 2, given));
-                Edges.undoable(() -> Making.busyWithRoom(8), "give(5, 6, 7)", x -> x.give(5, 6, 7, given));
+                Edges.undoable(() -> Making.busyPlaced(8), "give(5, 6, 7)", x -> x.give(5, 6, 7, given));
             }
         });
     }
@@ -327,8 +331,8 @@ final class GivingEdges {
             x.give(1, 0, 3, 0);
             Check.due("count(8)", x.count(8), 1);
         });
-        String change = "Whenever a given sign changes (but by mirror() and turn()) or is taken away, "
-                + "all derived triples become unknown, and a contradiction is forgotten.";
+        String change = "Whenever a given sign changes (but by mirror() and turn()) or is taken away, all derived "
+                + "triples become unknown, and a contradiction is forgotten.";
         Edges.edge(3, change, "another sign makes derived triples unknown", () -> {
             for (int sign = -1; sign <= 0; sign++) {
                 TripleSigns x = Making.chain();
@@ -521,8 +525,8 @@ final class GivingEdges {
     }
 
     private static void setUniform() {
-        String sentence = "Sets the uniform mode. All derived triples become unknown, and a contradiction is forgotten, "
-                + "also if the mode stays as it was.";
+        String sentence = "Sets the uniform mode. All derived triples become unknown, and a contradiction is "
+                + "forgotten, also if the mode stays as it was.";
         Edges.edge(5, sentence, "the mode changes", () -> {
             TripleSigns x = Making.chain();
             x.setUniform(true);

@@ -1,5 +1,10 @@
 /** Objects in the states that the tests of edges begin with. */
 final class Making {
+    // 014 = -1 is derived by relation 0; then relation 1 has 1 (-012 * 134), 0 and 1 (-014 * 123).
+    private static final String AGAINST = "plus abc;plus ade;zero abd;plus ace;plus acd;minus bde;plus bce;plus bcd;";
+    private static final String CHAIN = "plus abc;plus ade;zero abd;plus ace;plus acd;plus bcd;plus bce;";
+    static final String SCRIPT = "plus cba; drop bcd ;derive;mirror;";
+
     private Making() {
     }
 
@@ -59,24 +64,19 @@ final class Making {
     }
 
     /**
-     * Seven given signs (023 to be with 1) and two derived ones: 014 = -1 by relation 0 (its products
-     * are 012 * 034 = 1, 0, and 014 * 023), then 134 = 1 by relation 1 (-012 * 134, 0 and
-     * -014 * 123 = 1). 234 stays unknown.
+     * Seven given signs and two derived ones: 014 = -1 by relation 0 (its products are 012 * 034 = 1,
+     * 0, and 014 * 023), then 134 = 1 by relation 1 (-012 * 134, 0 and -014 * 123 = 1). 234 stays
+     * unknown.
      */
     static TripleSigns chain() {
-        TripleSigns x = signs("plus abc;plus ade;zero abd;plus ace;plus acd;plus bcd;plus bce;");
+        TripleSigns x = signs(CHAIN);
         x.derive();
         return x;
     }
 
-    /** 014 = -1 is derived by relation 0; then relation 1 has 1 (-012 * 134), 0 and 1 (-014 * 123). */
+    /** Eight given signs, 014 derived by relation 0, and a contradiction with relation 1. */
     static TripleSigns contradicted() {
-        return contradicted(5, false);
-    }
-
-    private static TripleSigns contradicted(int n, boolean uniform) {
-        TripleSigns x = signs(n, "plus abc;plus ade;zero abd;plus ace;plus acd;minus bde;plus bce;plus bcd;");
-        x.setUniform(uniform);
+        TripleSigns x = signs(AGAINST);
         x.derive();
         return x;
     }
@@ -86,11 +86,7 @@ final class Making {
      * saved states, which are all different. With fewer than five points there is one sign alone.
      */
     static TripleSigns busy(int n) {
-        TripleSigns x = n < 5 ? signs(n, "plus abc;") : contradicted(n, true);
-        if (n < 5) {
-            x.setUniform(true);
-        }
-        write(x, "plus cba; drop bcd ;derive;mirror;");
+        TripleSigns x = busyUniform(n);
         x.mirror();
         x.place(0, 5, -7);
         x.place(2, -50, 50);
@@ -98,9 +94,39 @@ final class Making {
         return x;
     }
 
-    /** As busy(), with the latest three of its saved states, so that one more drops none. */
-    static TripleSigns busyWithRoom(int n) {
-        return withRoom(busy(n));
+    /** As busy(), without coordinates, and with three saved states: one more drops none. */
+    static TripleSigns busyUniform(int n) {
+        TripleSigns x = new TripleSigns();
+        x.setUniform(true);
+        x.begin(n);
+        run(x, n < 5 ? "plus abc;" : AGAINST + "derive;");
+        write(x, SCRIPT);
+        return x;
+    }
+
+    /** As busy(), without the uniform mode, and with three saved states: one more drops none. */
+    static TripleSigns busyPlaced(int n) {
+        TripleSigns x = points(n);
+        x.scatter(7, 1, 50);
+        run(x, n < 5 ? "plus abc;" : AGAINST + "derive;");
+        write(x, SCRIPT);
+        return x;
+    }
+
+    /** As busyPlaced(), with given signs alone, from which others follow that are not derived yet. */
+    static TripleSigns ready(int n) {
+        TripleSigns x = points(n);
+        x.scatter(7, 1, 50);
+        run(x, n < 5 ? "plus abc;" : CHAIN);
+        write(x, SCRIPT);
+        return x;
+    }
+
+    /** Five points without unknown triples, with a contradiction and a script. */
+    static TripleSigns full() {
+        TripleSigns x = signs(AGAINST + "derive;plus cde;derive;");
+        write(x, SCRIPT);
+        return x;
     }
 
     /** The same state, and one saved state less where there were four. */
@@ -138,6 +164,55 @@ final class Making {
             x.place(p, p, p);
         }
         x.read();
+        return x;
+    }
+
+    /**
+     * The six ordered triples of a relation of five points: its first product has the first two, its
+     * second one, which counts turned, the next two, and its third one the last two.
+     */
+    static int[][] factors(int relation) {
+        int[] p = new int[5];
+        p[0] = relation;
+        for (int m = 1; m < 5; m++) {
+            p[m] = m - 1 < relation ? m - 1 : m;
+        }
+        return new int[][] {{p[0], p[1], p[2]}, {p[0], p[3], p[4]}, {p[0], p[1], p[3]},
+            {p[0], p[2], p[4]}, {p[0], p[1], p[4]}, {p[0], p[2], p[3]}};
+    }
+
+    /** Tells whether a relation is fulfilled with these signs of its factors. */
+    static boolean fulfilled(int[] signs) {
+        int first = signs[0] * signs[1];
+        int second = -signs[2] * signs[3];
+        int third = signs[4] * signs[5];
+        boolean plus = first == 1 || second == 1 || third == 1;
+        boolean minus = first == -1 || second == -1 || third == -1;
+        return plus == minus;
+    }
+
+    /** Five of six signs by a code from 0 to 242; the one that is left out is 0. */
+    static int[] signsBy(int code, int without) {
+        int[] signs = new int[6];
+        int rest = code;
+        for (int f = 0; f < 6; f++) {
+            if (f != without) {
+                signs[f] = rest % 3 - 1;
+                rest /= 3;
+            }
+        }
+        return signs;
+    }
+
+    /** Five points with all factors of a relation but one. */
+    static TripleSigns factorsGiven(int relation, int[] signs, int without) {
+        TripleSigns x = new TripleSigns();
+        int[][] factors = factors(relation);
+        for (int f = 0; f < 6; f++) {
+            if (f != without) {
+                x.give(factors[f][0], factors[f][1], factors[f][2], signs[f]);
+            }
+        }
         return x;
     }
 

@@ -229,8 +229,8 @@ final class MovingEdges {
     }
 
     private static void exchangeForgets() {
-        String sentence = "Given signs stay given; all derived triples become unknown before, "
-                + "and a contradiction is forgotten.";
+        String sentence = "Given signs stay given; all derived triples become unknown before, and a contradiction is "
+                + "forgotten.";
         Edges.edge(10, sentence, "derived ones do not become given ones", () -> {
             TripleSigns x = Making.chain();
             x.exchange(3, 4);

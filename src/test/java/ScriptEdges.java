@@ -1,26 +1,28 @@
 /** Edges of promises 26 to 28: the bytes of a script, its faults, and running it. */
 final class ScriptEdges {
-    private static final String SEQUENCE = "It is a sequence of commands (perhaps none), each of which is a word of letters, "
-            + "in some cases followed by at least one space (byte 32) and three names of points (letters, directly one "
-            + "behind the other), and then a semicolon.";
+    private static final String SEQUENCE = "It is a sequence of commands (perhaps none), each of which is a word of "
+            + "letters, in some cases followed by at least one space (byte 32) and three names of points (letters, "
+            + "directly one behind the other), and then a semicolon.";
     private static final String SPACES =
             "Spaces may also stand in front of a command, in front of a semicolon, and at the end.";
-    private static final String WORDS = "The words are: plus, minus, zero (give(i, j, k, 1), -1 and 0 for the three points "
-            + "as they stand), drop (drop(i, j, k)), all of them with names; and derive, mirror, without names.";
-    private static final String FAULT = "The fault of a script is the index of the first byte that cannot stand at its "
-            + "place, or the length of the script if it ends too soon.";
-    private static final String WORD = "A word that is not one of these is at fault with its first byte, found when the word "
-            + "is complete: when a byte that is no letter a to z, or the end of the script, follows it.";
+    private static final String WORDS = "The words are: plus, minus, zero (give(i, j, k, 1), -1 and 0 for the three "
+            + "points as they stand), drop (drop(i, j, k)), all of them with names; and derive, mirror, without "
+            + "names.";
+    private static final String FAULT = "The fault of a script is the index of the first byte that cannot stand at "
+            + "its place, or the length of the script if it ends too soon.";
+    private static final String WORD = "A word that is not one of these is at fault with its first byte, found when "
+            + "the word is complete: when a byte that is no letter a to z, or the end of the script, follows it.";
     private static final String NAME = "A name is a letter a to h, also of a point that does not exist.";
-    private static final String RUN = "To run a script means: if it has a fault, nothing is done; otherwise the commands are "
-            + "carried out in their order, until one of them would throw an exception, which is not thrown; those before it "
-            + "stay done, and they alone count.";
+    private static final String RUN = "To run a script means: if it has a fault, nothing is done; otherwise the "
+            + "commands are carried out in their order, until one of them would throw an exception, which is not "
+            + "thrown; those before it stay done, and they alone count.";
 
     private ScriptEdges() {
     }
 
     static void all() {
         type();
+        keeps();
         typeRefuses();
         clearScript();
         sequence();
@@ -95,6 +97,28 @@ final class ScriptEdges {
         });
     }
 
+    private static void keeps() {
+        Edges.edge(26, "Appends a byte to the script.", "nothing else changes, and no state is saved", () -> {
+            for (int n : new int[] {3, 5, 8}) {
+                TripleSigns x = Making.busy(n);
+                Making.write(x, Making.SCRIPT);
+                Edges.same("busy, of " + n + " points", x, Making.busy(n));
+                TripleSigns ready = Making.ready(n);
+                Making.write(ready, Making.SCRIPT);
+                Edges.same("not derived, of " + n + " points", ready, Making.ready(n));
+            }
+        });
+        Edges.edge(27, "Empties the script.", "nothing else changes, and no state is saved", () -> {
+            TripleSigns x = Making.ready(8);
+            TripleSigns twin = Making.ready(8);
+            Check.due("clearScript()", x.clearScript(), Making.SCRIPT.length());
+            for (int what = 0; what <= 9; what++) {
+                Check.due("count(" + what + ")", x.count(what), twin.count(what));
+            }
+            Check.due("undo()", x.undo(), twin.undo());
+        });
+    }
+
     private static int typeAll() {
         int typed = 0;
         for (int value = 1; value <= 126; value++) {
@@ -130,6 +154,17 @@ final class ScriptEdges {
             x.type('m');
             Check.due("run() of m", x.run(), -1000);
             Check.due("clearScript()", x.clearScript(), 1);
+        });
+        Edges.edge(27, "Empties the script.", "behind a shorter one nothing of a longer one is read", () -> {
+            for (String text : new String[] {"plus  abc ;", "mirror ;derive;"}) {
+                for (int length = 0; length < text.length(); length++) {
+                    TripleSigns x = new TripleSigns();
+                    Check.due("the longer one", Making.run(x, text) > 0, true);
+                    String shorter = text.substring(0, length);
+                    int due = Making.run(new TripleSigns(), shorter);
+                    Check.due("run() of '" + shorter + "'", Making.run(x, shorter), due);
+                }
+            }
         });
         Edges.edge(27, "Empties the script.", "a full one has room again", () -> {
             TripleSigns x = full(5);
@@ -313,7 +348,13 @@ final class ScriptEdges {
         Edges.edge(28, FAULT, "the last of 120 bytes, and their end", () -> {
             due(" ".repeat(119) + ";", -1119);
             due(" ".repeat(114) + "mirror", -1120);
+            due(" ".repeat(116) + "plus", -1120);
+            due(" ".repeat(115) + "plus ", -1120);
+            due(" ".repeat(114) + "plus a", -1120);
+            due(" ".repeat(113) + "plus ab", -1120);
             due(" ".repeat(112) + "plus abc", -1120);
+            due(" ".repeat(111) + "plus abc ", -1120);
+            due(" ".repeat(113) + "mirror ", -1120);
             due(" ".repeat(113) + "mirror;", 1);
             due(" ".repeat(111) + "plus abc;", 1);
             due(" ".repeat(113) + "mirror!", -1119);
@@ -416,6 +457,12 @@ final class ScriptEdges {
             dueNothing("mirror;mirro", -1007);
             dueNothing("mirror;;", -1007);
         });
+        Edges.edge(28, RUN, "no command at all", () -> {
+            TripleSigns x = Making.ready(5);
+            Check.due("run()", Making.run(x, "  "), 0);
+            Check.due("derived", x.count(3), 0);
+            Check.due("given", x.count(2), Making.ready(5).count(2));
+        });
         Edges.edge(28, RUN, "in their order", () -> {
             TripleSigns x = new TripleSigns();
             Check.due("run()", Making.run(x, "plus abc;mirror;plus abd;drop abc;zero abc;"), 5);
@@ -444,14 +491,19 @@ final class ScriptEdges {
     /** Running it changes nothing, whatever the object holds. */
     private static void dueNothing(String text, int due) {
         for (int n : new int[] {3, 5, 8}) {
-            Edges.Maker maker = () -> {
-                TripleSigns x = Making.busy(n);
-                Making.write(x, text);
-                return x;
-            };
-            Check.due("run() of '" + text + "'", maker.make().run(), due);
-            Edges.changesNothing(maker, "run() of '" + text + "'", TripleSigns::run);
+            dueNothing(() -> Making.busy(n), text, due);
+            dueNothing(() -> Making.ready(n), text, due);
         }
+    }
+
+    private static void dueNothing(Edges.Maker before, String text, int due) {
+        Edges.Maker maker = () -> {
+            TripleSigns x = before.make();
+            Making.write(x, text);
+            return x;
+        };
+        Check.due("run() of '" + text + "'", maker.make().run(), due);
+        Edges.changesNothing(maker, "run() of '" + text + "'", TripleSigns::run);
     }
 
     private static void stops() {
@@ -461,8 +513,10 @@ final class ScriptEdges {
             Check.due("given", x.count(2), 0);
         });
         Edges.edge(28, RUN, "one in the middle would throw", () -> {
-            String[] wrong = {"plus abf;", "minus faf;", "zero aab;", "plus aba;", "minus baa;", "zero ccc;", "drop aab;",
-                "drop abf;", "drop cde;"};
+            String[] wrong = {"plus abf;", "minus afb;", "zero fab;", "plus faf;", "minus hgf;", "plus aab;",
+                    "minus aba;",
+                "zero baa;", "plus ccc;", "drop aab;", "drop aba;", "drop baa;", "drop abf;", "drop afb;", "drop fab;",
+                "drop cde;"};
             for (String command : wrong) {
                 TripleSigns x = new TripleSigns();
                 Check.due("run() with " + command, Making.run(x, "plus abc;" + command + "plus abd;"), 1);

@@ -2,8 +2,8 @@ import java.math.BigInteger;
 
 /** Edges of promises 29 to 31: the text of the given signs, undo, and the checksum. */
 final class UndoEdges {
-    private static final String SAVES = "Every method that is marked \"undoable\" saves the whole state but the script on an "
-            + "undo stack when it ends normally, also if it changes nothing.";
+    private static final String SAVES = "Every method that is marked \"undoable\" saves the whole state but the "
+            + "script on an undo stack when it ends normally, also if it changes nothing.";
     private static final String LATEST = "The stack keeps the latest 4 saved states and drops older ones.";
 
     private UndoEdges() {
@@ -30,8 +30,9 @@ final class UndoEdges {
     }
 
     private static void written() {
-        String sentence = "Returns a byte of the text of the given signs: for each given triple in ascending order the word "
-                + "plus, minus or zero, a space, the names of its points in ascending order, and a semicolon.";
+        String sentence = "Returns a byte of the text of the given signs: for each given triple in ascending order "
+                + "the word plus, minus or zero, a space, the names of its points in ascending order, and a "
+                + "semicolon.";
         Edges.edge(29, sentence, "no given triple", () -> {
             dueText("a new object", new TripleSigns(), "");
             TripleSigns x = Making.signs("plus abc;");
@@ -82,7 +83,7 @@ final class UndoEdges {
             Check.due("nothing changes", Making.text(x).length(), 9);
         });
         Edges.edge(29, "Returns the byte; NONE if the text has not so many.", "nothing changes by it", () ->
-                Edges.changesNothing(() -> Making.busy(5), "written(0)", x -> x.written(0)));
+                Edges.changesNothing("written(0)", x -> x.written(0)));
     }
 
     private static void writtenRefuses() {
@@ -103,7 +104,8 @@ final class UndoEdges {
 
     /** A call of each undoable method that changes nothing on a new object. */
     private static final Edges.Call[] IDLE = {
-        x -> x.begin(5), x -> x.setUniform(false) ? 1 : 0, TripleSigns::derive, TripleSigns::forget, TripleSigns::mirror,
+        x -> x.begin(5), x -> x.setUniform(false) ? 1 : 0, TripleSigns::derive, TripleSigns::forget,
+                TripleSigns::mirror,
         x -> x.turn(2), x -> x.exchange(0, 2), TripleSigns::read, TripleSigns::run,
     };
 
@@ -121,7 +123,8 @@ final class UndoEdges {
     };
 
     private static void undo() {
-        Edges.edge(30, "Restores the latest saved state and removes it from the undo stack.", "one after the other", () -> {
+        Edges.edge(30, "Restores the latest saved state and removes it from the undo stack.",
+                "one after the other", () -> {
             TripleSigns x = new TripleSigns();
             x.place(0, 1, 1);
             x.place(0, 2, 2);
@@ -131,7 +134,8 @@ final class UndoEdges {
                 Check.due("x of 0", x.coordinate(0, 0), left == 0 ? Edges.NONE : left);
             }
         });
-        Edges.edge(30, "Restores the latest saved state and removes it from the undo stack.", "undo() saves none", () -> {
+        Edges.edge(30, "Restores the latest saved state and removes it from the undo stack.",
+                "undo() saves none", () -> {
             TripleSigns x = new TripleSigns();
             x.mirror();
             x.mirror();
@@ -183,10 +187,10 @@ final class UndoEdges {
 
     private static void undoSaves() {
         Edges.edge(30, "The saved state is the one from before the call.", "a call that changes much", () -> {
-            TripleSigns x = Making.busyWithRoom(8);
+            TripleSigns x = Making.busyPlaced(8);
             x.begin(3);
             Check.due("undo()", x.undo(), 3);
-            Edges.same("begin(3) undone", x, Making.busyWithRoom(8));
+            Edges.same("begin(3) undone", x, Making.busyPlaced(8));
         });
         Edges.edge(30, "Every method that is marked \"undoable\" saves", "the others save none", () -> {
             TripleSigns x = Making.emptied(Making.parabola(8));
@@ -204,7 +208,8 @@ final class UndoEdges {
             Check.dueThrow("undo() after clearScript()", Edges.ISE, x::undo);
             Check.due("digest()", x.digest(), before);
         });
-        Edges.edge(30, "saves the whole state but the script on an undo stack when it ends normally", "refused calls save none", () -> {
+        Edges.edge(30, "saves the whole state but the script on an undo stack when it ends normally",
+                "refused calls save none", () -> {
             TripleSigns x = new TripleSigns();
             Check.dueThrow("begin(2)", Edges.IAE, () -> x.begin(2));
             Check.dueThrow("give()", Edges.IAE, () -> x.give(0, 1, 2, 2));
@@ -277,10 +282,14 @@ final class UndoEdges {
         });
         Edges.edge(30, "Throws `IllegalStateException` if the stack is empty", "all states are undone", () -> {
             for (int n : new int[] {3, 5, 8}) {
-                Edges.refused(() -> Making.emptied(Making.busy(n)), Edges.ISE, "undo() of " + n + " points", TripleSigns::undo);
+                Edges.refused(() -> Making.emptied(Making.busy(n)), Edges.ISE, "undo() of " + n + " points",
+                        TripleSigns::undo);
+                Edges.refused(() -> Making.emptied(Making.ready(n)), Edges.ISE, "undo() of " + n + " points, not derived",
+                        TripleSigns::undo);
             }
         });
-        Edges.edge(30, "A call that throws an exception changes nothing.", "undo() of nothing, and a call after it", () -> {
+        Edges.edge(30, "A call that throws an exception changes nothing.",
+                "undo() of nothing, and a call after it", () -> {
             TripleSigns x = Making.emptied(Making.busy(5));
             Check.dueThrow("undo()", Edges.ISE, x::undo);
             x.mirror();
@@ -322,9 +331,9 @@ final class UndoEdges {
     }
 
     private static void digest() {
-        String sentence = "the number of states on the undo stack, the length of the script; count() of 0 to 9; for each "
-                + "triple triple() of 3 to 6 and reasons(); for each relation relation() of 5 and 6; for each point "
-                + "isExtreme() as 1 or 0, and coordinate() of 0 and 1; mismatches().";
+        String sentence = "the number of states on the undo stack, the length of the script; count() of 0 to 9; for "
+                + "each triple triple() of 3 to 6 and reasons(); for each relation relation() of 5 and 6; for each "
+                + "point isExtreme() as 1 or 0, and coordinate() of 0 and 1; mismatches().";
         Edges.edge(31, sentence, "a new object", () ->
                 Check.due("digest()", new TripleSigns().digest(), hash(TripleSigns::new, 0, 0)));
         Edges.edge(31, sentence, "three points, which have no relation", () -> {
@@ -339,6 +348,7 @@ final class UndoEdges {
         });
         Edges.edge(31, sentence, "eight points", () -> {
             Check.due("busy", Making.busy(8).digest(), hash(() -> Making.busy(8), 4, 34));
+            Check.due("not derived", Making.ready(8).digest(), hash(() -> Making.ready(8), 3, 34));
             Check.due("full", Making.parabola(8).digest(), hash(() -> Making.parabola(8), 4, 0));
             Check.due("flat", Making.flat(8).digest(), hash(() -> Making.flat(8), 4, 0));
         });
@@ -368,8 +378,8 @@ final class UndoEdges {
     }
 
     private static void digestWraps() {
-        Edges.edge(31, "It starts with h = 18398. For each of the following values v, in this order, h becomes 31 * h + v "
-                + "(long arithmetic, overflow wraps).", "exactly, beyond 64 bits", () -> {
+        Edges.edge(31, "It starts with h = 18398. For each of the following values v, in this order, h becomes 31 * "
+                + "h + v (long arithmetic, overflow wraps).", "exactly, beyond 64 bits", () -> {
             TripleSigns x = Making.points(3);
             int[] values = {1, 0, 3, 1, 0, 0, 1, 0, 0, 0, -100, 0, -100, 0, -100, -100, 0,
                 0, -100, -100, 0, -100, -100, 0, -100, -100, 0};
@@ -383,6 +393,7 @@ final class UndoEdges {
         Edges.edge(31, "Returns a hash of the state.", "nothing changes by it", () -> {
             for (int n : new int[] {3, 5, 8}) {
                 Edges.changesNothing(() -> Making.busy(n), "digest()", TripleSigns::digest);
+                Edges.changesNothing(() -> Making.ready(n), "digest(), not derived", TripleSigns::digest);
             }
         });
         Edges.edge(31, "Returns the hash.", "the same twice, and of two objects", () -> {
