@@ -104,9 +104,8 @@ final class UndoEdges {
 
     /** A call of each undoable method that changes nothing on a new object. */
     private static final Edges.Call[] IDLE = {
-        x -> x.begin(5), x -> x.setUniform(false) ? 1 : 0, TripleSigns::derive, TripleSigns::forget,
-                TripleSigns::mirror,
-        x -> x.turn(2), x -> x.exchange(0, 2), TripleSigns::read, TripleSigns::run,
+        x -> x.begin(5), x -> x.setUniform(false) ? 1 : 0, x -> x.turn(2), x -> x.exchange(0, 2),
+        TripleSigns::derive, TripleSigns::forget, TripleSigns::mirror, TripleSigns::read, TripleSigns::run,
     };
 
     /** A call of each of the others, and one that gives a sign once more. */
@@ -284,7 +283,7 @@ final class UndoEdges {
             for (int n : new int[] {3, 5, 8}) {
                 Edges.refused(() -> Making.emptied(Making.busy(n)), Edges.ISE, "undo() of " + n + " points",
                         TripleSigns::undo);
-                Edges.refused(() -> Making.emptied(Making.ready(n)), Edges.ISE, "undo() of " + n + " points, not derived",
+                Edges.refused(() -> Making.emptied(Making.ready(n)), Edges.ISE, "undo() of " + n + ", not derived",
                         TripleSigns::undo);
             }
         });
