@@ -1,3 +1,5 @@
+import java.util.List;
+
 /** Edges of promises 6 and 7: deriving, contradictions, and forgetting what was derived. */
 final class DerivingEdges {
     private static final String POSSIBLE = "For a relation with exactly one unknown triple, the possible signs of "
@@ -159,6 +161,21 @@ final class DerivingEdges {
             x.derive();
             Check.due("014: sign", x.triple(2, 3), -1);
             Check.due("014: relation", x.triple(2, 5), 0);
+        });
+        Edges.edge(6, ONE, "each triple of each relation of five to eight points", () -> {
+            for (int n = 5; n <= 8; n++) {
+                List<int[]> relations = Making.relations(n);
+                for (int r = 0; r < relations.size(); r++) {
+                    for (int unknown = 0; unknown < 6; unknown++) {
+                        TripleSigns x = Making.lone(n, relations.get(r), unknown);
+                        Check.due("derive() of relation " + r + " of " + n, x.derive(), 1);
+                        int triple = Making.derived(x);
+                        Check.due("relation of " + triple, x.triple(triple, 5), r);
+                        Check.due("step of " + triple, x.triple(triple, 6), 1);
+                        Check.due("contradiction", x.count(8), Edges.NONE);
+                    }
+                }
+            }
         });
         Edges.edge(6, ONE, "the last relation of eight points", () -> {
             // Its products are those of 347 and 567, of 357 and 467 (turned), and of 367 and 457.

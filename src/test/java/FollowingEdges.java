@@ -1,4 +1,5 @@
 import java.util.HashSet;
+import java.util.List;
 import java.util.Set;
 
 /** Edges of promises 17 to 20: completions, cocircuits, extreme points and lines. */
@@ -56,6 +57,17 @@ final class FollowingEdges {
                 for (int unknown = 0; unknown < 6; unknown++) {
                     for (int code = 0; code < 243; code++) {
                         dueWays(relation, unknown, Making.signsBy(code, unknown));
+                    }
+                }
+            }
+        });
+        Edges.edge(17, sentence, "each triple of each relation of five to eight points", () -> {
+            for (int n = 5; n <= 8; n++) {
+                List<int[]> relations = Making.relations(n);
+                for (int r = 0; r < relations.size(); r++) {
+                    for (int unknown = 0; unknown < 6; unknown++) {
+                        Check.due("completions() for factor " + unknown + " of relation " + r + " of " + n,
+                                Making.lone(n, relations.get(r), unknown).completions(), 1);
                     }
                 }
             }

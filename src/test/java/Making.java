@@ -1,3 +1,6 @@
+import java.util.ArrayList;
+import java.util.List;
+
 /** Objects in the states that the tests of edges begin with. */
 final class Making {
     // 014 = -1 is derived by relation 0; then relation 1 has 1 (-012 * 134), 0 and 1 (-014 * 123).
@@ -172,11 +175,49 @@ final class Making {
      * second one, which counts turned, the next two, and its third one the last two.
      */
     static int[][] factors(int relation) {
-        int[] p = new int[5];
-        p[0] = relation;
-        for (int m = 1; m < 5; m++) {
-            p[m] = m - 1 < relation ? m - 1 : m;
+        return factorsOf(relations(5).get(relation));
+    }
+
+    /** The points a to e of each relation of n points. */
+    static List<int[]> relations(int n) {
+        List<int[]> relations = new ArrayList<>();
+        for (int a = 0; a < n; a++) {
+            for (int code = 0; code < 4096; code++) {
+                int[] p = {a, code >> 9, code >> 6 & 7, code >> 3 & 7, code & 7};
+                boolean rises = p[1] < p[2] && p[2] < p[3] && p[3] < p[4] && p[4] < n;
+                if (rises && p[1] != a && p[2] != a && p[3] != a && p[4] != a) {
+                    relations.add(p);
+                }
+            }
         }
+        return relations;
+    }
+
+    /**
+     * So many points with 0 for all triples but those of a relation, of which one is unknown: one of
+     * the other products is not 0, so that there is one sign that fits. The products of all other
+     * relations are 0, since two of the triples that are not 0 meet in no other one.
+     */
+    static TripleSigns lone(int n, int[] p, int unknown) {
+        TripleSigns x = points(n);
+        for (int i = 0; i < n; i++) {
+            for (int j = i + 1; j < n; j++) {
+                for (int k = j + 1; k < n; k++) {
+                    x.give(i, j, k, 0);
+                }
+            }
+        }
+        int[][] factors = factorsOf(p);
+        int partner = unknown ^ 1;
+        int other = (unknown + 2) % 6;
+        for (int f : new int[] {partner, other, other ^ 1}) {
+            x.give(factors[f][0], factors[f][1], factors[f][2], 1);
+        }
+        x.drop(factors[unknown][0], factors[unknown][1], factors[unknown][2]);
+        return x;
+    }
+
+    private static int[][] factorsOf(int[] p) {
         return new int[][] {{p[0], p[1], p[2]}, {p[0], p[3], p[4]}, {p[0], p[1], p[3]},
             {p[0], p[2], p[4]}, {p[0], p[1], p[4]}, {p[0], p[2], p[3]}};
     }
@@ -214,6 +255,17 @@ final class Making {
             }
         }
         return x;
+    }
+
+    /** The number of the first derived triple; 0 without any. */
+    static int derived(TripleSigns x) {
+        int triples = x.count(1);
+        for (int t = 0; t < triples; t++) {
+            if (x.triple(t, 4) == 2) {
+                return t;
+            }
+        }
+        return 0;
     }
 
     /** The number of the triple i < j < k of n points, counted from the first one on. */
