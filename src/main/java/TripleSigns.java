@@ -592,7 +592,7 @@ public final class TripleSigns {
         for (int r = 0; r < layout.relations; r++) {
             int unknown = layout.unknownIn(r, now.signs);
             if (unknown == 1) {
-                changed |= deriveFrom(r);
+                changed = deriveFrom(r) || changed;
             } else if (unknown == 0 && layout.verdict(r, now.signs) < 0) {
                 now.contradiction = r;
             }
@@ -685,8 +685,8 @@ public final class TripleSigns {
             if (sign == NONE) {
                 return false;
             }
-            left |= sign == 1;
-            right |= sign == -1;
+            left = left || sign == 1;
+            right = right || sign == -1;
         }
         return left != right;
     }
@@ -793,7 +793,7 @@ public final class TripleSigns {
     }
 
     private void save() {
-        if (savedStates == MOST_SAVED) {
+        if (savedStates >= MOST_SAVED) {
             State oldest = saved[0];
             for (int s = 1; s < MOST_SAVED; s++) {
                 saved[s - 1] = saved[s];
@@ -933,8 +933,9 @@ public final class TripleSigns {
 
         private int unknownIn(int relation, int[] signs) {
             int unknown = 0;
+            int at = relation * FACTORS;
             for (int f = 0; f < FACTORS; f++) {
-                if (signs[factor(relation, f)] == NONE) {
+                if (signs[factors[at + f]] == NONE) {
                     unknown++;
                 }
             }
@@ -960,8 +961,8 @@ public final class TripleSigns {
                 int product = coefficients[relation * PRODUCTS + p]
                         * signs[factor(relation, 2 * p)]
                         * signs[factor(relation, 2 * p + 1)];
-                plus |= product == 1;
-                minus |= product == -1;
+                plus = plus || product == 1;
+                minus = minus || product == -1;
             }
             return plus == minus ? 1 : -1;
         }

@@ -1,9 +1,13 @@
 import java.io.IOException;
+import java.lang.reflect.Field;
+import java.lang.reflect.Modifier;
 import java.nio.file.Files;
 import java.nio.file.Path;
 import java.util.ArrayList;
 import java.util.List;
+import java.util.Map;
 import java.util.Set;
+import java.util.TreeMap;
 import java.util.TreeSet;
 import java.util.regex.Matcher;
 import java.util.regex.Pattern;
@@ -23,7 +27,15 @@ public final class LanguageTest {
         "->", "::", "\\bstatic\\s*\\{", "\\bpackage\\b", "\\bprotected\\b", "\\bthis\\b", "\\bObject\\b",
         "@", "\\bnative\\b", "\\w+Exact\\b", "\\bdouble\\b", "\\bfloat\\b", "\\bvar\\b", "\\bwhile \\(true\\)",
         "\\bequals\\b", "\\bhashCode\\b", "\\btoString\\b",
+        "\\bclone\\b", "\\bsubstring\\b", "\\btoCharArray\\b",
     };
+    private static final int MOST_LINES = 60;
+    private static final int MOST_PARAMETERS = 7;
+    private static final int MOST_CALLS_DEEP = 8;
+    private static final int MOST_CLASSES = 12;
+    private static final int MOST_FIELDS = 20;
+    // Its depth is an argument, which it compares with the document's limit.
+    private static final Set<String> RECURSIONS = Set.of("waysFrom");
 
     public static void main(String[] args) throws IOException {
         String text = Files.readString(SOURCE);
@@ -38,7 +50,10 @@ public final class LanguageTest {
         imports(code);
         names(code);
         statics(code);
-        methods(code);
+        makings(code);
+        masks(code);
+        classes();
+        calls(methods(code));
         Check.end("LanguageTest");
     }
 
@@ -72,26 +87,99 @@ public final class LanguageTest {
         }
     }
 
-    private static void methods(String code) {
+    /** Rule 12: rows are made with the object that holds them, and no call but a refused one makes any. */
+    private static void makings(String code) {
+        for (String line : all("(?m)^ *(.*\\bnew .*)$", code)) {
+            boolean made = line.startsWith("throw new ") || line.startsWith("private final ")
+                    || line.equals("saved[s] = new State();");
+            Check.due("makes something in a call: " + line, made, true);
+        }
+    }
+
+    /** Rule 10: single bars join the bits of masks alone, and booleans are joined by two. */
+    private static void masks(String code) {
+        for (String line : all("(?m)^ *(.*[^|&][|&^](?![|&]).*)$", code)) {
+            boolean bits = line.startsWith("mask |= ") || line.startsWith("masks[relations] |= ")
+                    || line.contains("(masks[r] & bit) != 0L");
+            Check.due("joins something else: " + line, bits, true);
+        }
+    }
+
+    /** Rule 11: so many classes, and so many fields of a class beside its constants. */
+    private static void classes() {
+        List<Class<?>> classes = new ArrayList<>(List.of(TripleSigns.class.getDeclaredClasses()));
+        classes.add(TripleSigns.class);
+        Check.due("number of classes", classes.size() <= MOST_CLASSES, true);
+        for (Class<?> one : classes) {
+            int fields = 0;
+            for (Field field : one.getDeclaredFields()) {
+                fields += Modifier.isStatic(field.getModifiers()) ? 0 : 1;
+            }
+            Check.due("number of fields of " + one.getName(), fields <= MOST_FIELDS, true);
+            Check.due("classes inside " + one.getName(),
+                    one == TripleSigns.class || one.getDeclaredClasses().length == 0, true);
+        }
+    }
+
+    /** The methods' names, with the lines of their bodies joined. */
+    private static Map<String, String> methods(String code) {
+        Map<String, String> bodies = new TreeMap<>();
         String[] lines = code.split("\n");
         int start = -1;
         String indent = "";
-        int found = 0;
+        String name = "";
         for (int l = 0; l < lines.length; l++) {
             String line = lines[l];
-            Matcher head = Pattern.compile("^( +)(?:public |private |static |final )+[\\w\\[\\]<> ]*\\(").matcher(line);
+            Matcher head = Pattern.compile("^( +)(?:(?:public|private|static|final) )+[\\w\\[\\]<> ]*?(\\w+)\\(")
+                    .matcher(line);
             if (start < 0 && head.find() && !line.contains("=")) {
                 start = l;
                 indent = head.group(1);
-                found++;
-                String shape = line.substring(line.indexOf('('));
-                long commas = shape.chars().filter(c -> c == ',').count();
-                Check.due("parameters at line: " + line.trim(), commas < 7, true);
+                name = head.group(2);
+                long commas = line.chars().filter(c -> c == ',').count();
+                Check.due("parameters at line: " + line.trim(), commas < MOST_PARAMETERS, true);
             } else if (start >= 0 && line.equals(indent + "}")) {
-                Check.due("length of the method: " + lines[start].trim(), l - start + 1 <= 60, true);
+                Check.due("length of the method " + name, l - start + 1 <= MOST_LINES, true);
+                String body = String.join(" ", List.of(lines).subList(start + 1, l));
+                Check.due("another method is named " + name, bodies.put(name, body) == null, true);
                 start = -1;
             }
         }
-        Check.due("methods are seen", found > 80, true);
+        Check.due("methods are seen", bodies.size() > 80, true);
+        return bodies;
+    }
+
+    /** Rules 8 and 11: no methods call one another in a ring, and no call stands too deep. */
+    private static void calls(Map<String, String> bodies) {
+        Map<String, Integer> depths = new TreeMap<>();
+        for (String name : bodies.keySet()) {
+            int depth = depth(name, bodies, depths, 0);
+            Check.due("calls stand " + depth + " deep from " + name, depth <= MOST_CALLS_DEEP, true);
+            Check.due(name + " calls itself", called(name, bodies).contains(name), RECURSIONS.contains(name));
+        }
+        Check.due("deep calls are seen", depths.get("run") >= 6, true);
+    }
+
+    /** How many methods stand open at most from this one on, itself included; a ring counts as very many. */
+    private static int depth(String name, Map<String, String> bodies, Map<String, Integer> depths, int above) {
+        if (above > MOST_CALLS_DEEP) {
+            return 1000;
+        }
+        if (!depths.containsKey(name)) {
+            int deepest = 0;
+            for (String called : called(name, bodies)) {
+                if (!called.equals(name)) {
+                    deepest = Math.max(deepest, depth(called, bodies, depths, above + 1));
+                }
+            }
+            depths.put(name, deepest + 1);
+        }
+        return depths.get(name);
+    }
+
+    private static Set<String> called(String name, Map<String, String> bodies) {
+        Set<String> called = new TreeSet<>(all("\\b(\\w+)\\(", bodies.get(name)));
+        called.retainAll(bodies.keySet());
+        return called;
     }
 }
